@@ -217,11 +217,9 @@ public final class FiveStones {
 
     public int stage(int hand, int v) {
         Hand one = table.handAt(hand);
-        if (one == null) {
-            return refuse(NOBODY);
-        }
-        if (!isStage(v)) {
-            return refuse(WRONG);
+        int why = whyNoStage(one, v);
+        if (why != 0) {
+            return refuse(why);
         }
         int was = one.level;
         one.level = v;
@@ -296,11 +294,9 @@ public final class FiveStones {
 
     public int chance(int hand, int stage) {
         Hand one = table.handAt(hand);
-        if (one == null) {
-            return refuse(NOBODY);
-        }
-        if (!isStage(stage)) {
-            return refuse(WRONG);
+        int why = whyNoStage(one, stage);
+        if (why != 0) {
+            return refuse(why);
         }
         mind.look(table);
         mind.thinkThrough(one, stage);
@@ -309,11 +305,9 @@ public final class FiveStones {
 
     public int plan(int hand, int stage) {
         Hand one = table.handAt(hand);
-        if (one == null) {
-            return refuse(NOBODY);
-        }
-        if (!isStage(stage)) {
-            return refuse(WRONG);
+        int why = whyNoStage(one, stage);
+        if (why != 0) {
+            return refuse(why);
         }
         mind.look(table);
         mind.thinkThrough(one, stage);
@@ -578,6 +572,13 @@ public final class FiveStones {
         return height >= 1 && height <= HIGHEST;
     }
 
+    private static int whyNoStage(Hand one, int stage) {
+        if (one == null) {
+            return NOBODY;
+        }
+        return isStage(stage) ? 0 : WRONG;
+    }
+
     /** The refusal of a shelf where a row is wanted; 0 if it holds one. */
     private static int whyNoRow(Shelf shelf) {
         if (shelf == null) {
@@ -700,7 +701,7 @@ public final class FiveStones {
             }
         }
 
-        /** 0 where there is no element: no letter of a text, so that a text's end needs no test of its own. */
+        /** 0 where there is none: no letter of a text, so that its end needs no test of its own. */
         int intAt(int i) {
             return i >= 0 && i < length ? (int) elements[i] : 0;
         }
@@ -827,8 +828,10 @@ public final class FiveStones {
             return count < HANDS;
         }
 
-        /** Only where there is room. */
         int addHand(int kind, int a) {
+            if (!hasRoom()) {
+                return NONE;
+            }
             hands[count].begin(kind, a);
             count++;
             return count - 1;

@@ -36,15 +36,7 @@ final class Due {
 
     /** The call answers so, and is neither counted as a refusal nor changes anything. */
     void asks(Supplier<FiveStones> made, String call, ToLongFunction<FiveStones> what, long answer) {
-        FiveStones x = made.get();
-        List<Long> before = picture(x);
-        long[] counts = refusals(x);
-        is(call, what.applyAsLong(x), answer);
-        long[] after = refusals(x);
-        for (int r = 1; r <= 7; r++) {
-            is(call + ", then status(" + (10 + r) + ")", after[r], counts[r]);
-        }
-        unchanged(x, call, before);
+        refuses(made, call, what, answer, 0);
     }
 
     void end() {

@@ -8,6 +8,7 @@ public final class ThoughtTest {
         refused();
         examples();
         details();
+        lastOdds();
         againstPlain();
         best();
         DUE.end();
@@ -114,6 +115,36 @@ public final class ThoughtTest {
         DUE.is("odds by high of a worn one", worn.high(0, 1, 1), 0);
         DUE.is("chance of a worn one", worn.chance(0, 1), 0);
         DUE.is("plan without any chance", worn.plan(0, 1), 1);
+    }
+
+    /** Odds of 1 of 100, and the highest toss that is ever best: no four stones have a greater way. */
+    private static void lastOdds() {
+        FiveStones x = tiredBy(300);
+        Made.lay(x, 3);
+        DUE.is("slip behind 300 tosses", x.handOf(0, 5), 33);
+        DUE.is("high with odds 1", x.high(0, 1, 0), 3);
+        DUE.is("odds by high", x.high(0, 1, 1), 1);
+        DUE.is("chance with odds 1", x.chance(0, 3), 10000);
+        FiveStones y = tiredBy(960);
+        DUE.is("slip behind 960 tosses", y.handOf(0, 5), 99);
+        DUE.is("keep with odds 1", y.keep(0), 1);
+        FiveStones z = Made.fresh();
+        z.hand(6, 9);
+        Made.lay(z, 30, 0, 14, 5);
+        DUE.is("way of all", z.way(15), 22);
+        DUE.is("the highest toss", z.high(0, 15, 0), 8);
+        DUE.is("its odds", z.high(0, 15, 1), 76);
+        DUE.is("its chance", z.chance(0, 4), 760000);
+    }
+
+    private static FiveStones tiredBy(int tosses) {
+        FiveStones x = Made.fresh();
+        x.hand(4, 0);
+        while (x.handOf(0, 4) < tosses - 100) {
+            x.plays(20);
+        }
+        ShelfTest.tossTimes(x, tosses - x.handOf(0, 4));
+        return x;
     }
 
     private static void againstPlain() {

@@ -83,6 +83,23 @@ public final class ToldTest {
             }
         }
         DUE.is("turns that come to no fewer", slow.turns(0, left - 1), -1);
+        lastTurn();
+    }
+
+    /** Only hand 3 ever gets through, in every fourth turn. */
+    private static void lastTurn() {
+        FiveStones x = Made.full();
+        Made.ints(x, 5, 0, 0, 0, 1);
+        int left = 1000000;
+        for (int t = 0; t < 250; t++) {
+            left -= left / 100;
+        }
+        x.turn(0);
+        DUE.is("turns that end with the 1000th", x.turns(5, left), 1000);
+        DUE.is("turns that don't", x.turns(5, left - 1), -1);
+        x.turn(3);
+        DUE.is("turns that end with the 997th", x.turns(5, left), 997);
+        DUE.is("turns that would end with the 1001st", x.turns(5, left - left / 100), -1);
     }
 
     private static void againstPlain() {
@@ -134,6 +151,7 @@ public final class ToldTest {
         DUE.refuses(Made::usual, "told(0, 0, -1)", x -> x.told(0, 0, -1), -4, -4);
         DUE.refuses(Made::usual, "told(0, 0, 21)", x -> x.told(0, 0, 21), -5, -5);
         DUE.refuses(() -> with(new int[21]), "told(0, 5, 21)", x -> x.told(0, 5, 21), -6, -6);
+        DUE.asks(() -> with(new int[20]), "judge(0, 5, 20)", x -> x.judge(0, 5, 20), 0);
         DUE.refuses(() -> with(11, 11), "told twice the same", x -> x.told(0, 5, 2), -6, -6);
     }
 

@@ -178,6 +178,7 @@ public final class TruthTest {
                 faults += playByHand(y);
             }
             DUE.is("plays(" + n + ") in run " + run, x.plays(n), faults);
+            DUE.is("plays(1) more in run " + run, x.plays(1), playByHand(y));
             DUE.is("as by hand in run " + run, Due.picture(x).equals(Due.picture(y)) ? 1 : 0, 1);
         }
     }
