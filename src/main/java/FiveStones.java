@@ -293,25 +293,13 @@ public final class FiveStones {
     }
 
     public int chance(int hand, int stage) {
-        Hand one = table.handAt(hand);
-        int why = whyNoStage(one, stage);
-        if (why != 0) {
-            return refuse(why);
-        }
-        mind.look(table);
-        mind.thinkThrough(one, stage);
-        return mind.chances[mind.lie];
+        int why = thinkOf(hand, stage);
+        return why == 0 ? mind.chances[mind.lie] : refuse(why);
     }
 
     public int plan(int hand, int stage) {
-        Hand one = table.handAt(hand);
-        int why = whyNoStage(one, stage);
-        if (why != 0) {
-            return refuse(why);
-        }
-        mind.look(table);
-        mind.thinkThrough(one, stage);
-        return mind.plans[mind.lie];
+        int why = thinkOf(hand, stage);
+        return why == 0 ? mind.plans[mind.lie] : refuse(why);
     }
 
     public int bestStage(int hand) {
@@ -577,6 +565,17 @@ public final class FiveStones {
             return NOBODY;
         }
         return isStage(stage) ? 0 : WRONG;
+    }
+
+    /** The mind goes through a stage of what lies now; else the refusal, which is not counted yet. */
+    private int thinkOf(int hand, int stage) {
+        Hand one = table.handAt(hand);
+        int why = whyNoStage(one, stage);
+        if (why == 0) {
+            mind.look(table);
+            mind.thinkThrough(one, stage);
+        }
+        return why;
     }
 
     /** The refusal of a shelf where a row is wanted; 0 if it holds one. */
@@ -969,6 +968,9 @@ public final class FiveStones {
 
     /** Thinks about a laying and changes nothing of it; look() comes ahead of all other thoughts. */
     private static final class Mind {
+        /** Above every way: from BASE through all stones and back is never more than six times ten. */
+        private static final int TOO_FAR = 100;
+
         final int[] ways = new int[SETS];
         final int[] chances = new int[SETS];
         final int[] plans = new int[SETS];
@@ -998,7 +1000,7 @@ public final class FiveStones {
 
         /** The smaller sets must have been gone through ahead of this one. */
         private int wayThrough(int[] cells, int set) {
-            int least = Integer.MAX_VALUE;
+            int least = TOO_FAR;
             for (int last = 0; last < STONES; last++) {
                 if ((set >> last & 1) == 1) {
                     int path = pathTo(cells, set, last);
@@ -1014,7 +1016,7 @@ public final class FiveStones {
             if (rest == 0) {
                 return farOf(BASE, cells[last]);
             }
-            int least = Integer.MAX_VALUE;
+            int least = TOO_FAR;
             for (int ahead = 0; ahead < STONES; ahead++) {
                 if ((rest >> ahead & 1) == 1) {
                     int path = paths[rest * STONES + ahead] + farOf(cells[ahead], cells[last]);

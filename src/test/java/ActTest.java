@@ -134,7 +134,6 @@ public final class ActTest {
                 }
             }
         }
-        noSuch();
         DUE.end();
     }
 
@@ -159,19 +158,5 @@ public final class ActTest {
         DUE.is("trace(-1)", stones.trace(-1), -1);
         DUE.is("trace(MIN)", stones.trace(Integer.MIN_VALUE), -1);
         DUE.is("trace(MAX)", stones.trace(Integer.MAX_VALUE), -1);
-    }
-
-    private static void noSuch() {
-        int[][] calls = {{3, 0}, {-1, 0}, {0, 3}, {0, -1}};
-        for (int[] call : calls) {
-            FiveStones x = Made.usual();
-            DUE.is("status(6) of an act", x.status(6) > 0 ? 1 : 0, 1);
-            DUE.is("act(" + call[0] + ", " + call[1] + ", 9)", x.act(call[0], call[1], 9), 0);
-            DUE.is("then trace(0)", x.trace(0), -1);
-            DUE.is("then status(6)", x.status(6), 0);
-            for (int what = 11; what <= 17; what++) {
-                DUE.is("then status(" + what + ")", x.status(what), 0);
-            }
-        }
     }
 }

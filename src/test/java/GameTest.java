@@ -9,7 +9,7 @@ public final class GameTest {
     private static final Pattern GAME = Pattern.compile(ITEM + "(?:;" + ITEM + ")*");
 
     public static void main(String[] args) {
-        refused();
+        latestFault();
         told();
         faults();
         noRoom();
@@ -18,11 +18,7 @@ public final class GameTest {
         DUE.end();
     }
 
-    private static void refused() {
-        DUE.refuses(Made::usual, "game(8)", x -> x.game(8), -1, -1);
-        DUE.refuses(Made::usual, "game(-1)", x -> x.game(-1), -1, -1);
-        DUE.refuses(Made::usual, "game(2)", x -> x.game(2), -2, -2);
-        DUE.refuses(Made::usual, "game(7)", x -> x.game(7), -3, -3);
+    private static void latestFault() {
         FiveStones x = Made.usual();
         DUE.is("fault() ahead of any", x.fault(), -1);
         DUE.is("game(0)", x.game(0), -6);

@@ -32,15 +32,6 @@ public final class HandTest {
     }
 
     private static void hands() {
-        DUE.refuses(Made::full, "hand(7, 10)", x -> x.hand(7, 10), -1, -1);
-        DUE.refuses(Made::usual, "hand(-1, 0)", x -> x.hand(-1, 0), -1, -1);
-        DUE.refuses(Made::full, "hand(0, 10)", x -> x.hand(0, 10), -6, -6);
-        DUE.refuses(Made::usual, "hand(0, -1)", x -> x.hand(0, -1), -6, -6);
-        DUE.refuses(Made::full, "hand(0, 0)", x -> x.hand(0, 0), -7, -7);
-        DUE.refuses(Made::usual, "handOf(3, 0)", x -> x.handOf(3, 0), -5, -5);
-        DUE.refuses(Made::usual, "handOf(-1, 0)", x -> x.handOf(-1, 0), -5, -5);
-        DUE.refuses(Made::usual, "handOf(0, 7)", x -> x.handOf(0, 7), -5, -5);
-        DUE.refuses(Made::usual, "handOf(0, -1)", x -> x.handOf(0, -1), -5, -5);
         FiveStones x = Made.fresh();
         for (int h = 0; h < 4; h++) {
             DUE.is("hand(" + (h + 3) + ", " + (9 - h) + ")", x.hand(h + 3, 9 - h), h);
@@ -63,11 +54,11 @@ public final class HandTest {
                 int most = kind == 1 || kind == 5 ? a % 3 + 1 : 4;
                 DUE.is("handOf(0, 5) of " + kind + " " + a, x.handOf(0, 5), slip[kind]);
                 DUE.is("handOf(0, 6) of " + kind + " " + a, x.handOf(0, 6), most);
-                ShelfTest.tossTimes(x, 9);
+                Made.tossTimes(x, 9);
                 DUE.is("handOf(0, 5) behind 9 tosses of " + kind, x.handOf(0, 5), slip[kind]);
-                ShelfTest.tossTimes(x, 1);
+                Made.tossTimes(x, 1);
                 DUE.is("handOf(0, 5) behind 10 tosses of " + kind, x.handOf(0, 5), later[kind]);
-                ShelfTest.tossTimes(x, 9);
+                Made.tossTimes(x, 9);
                 DUE.is("handOf(0, 5) behind 19 tosses of " + kind, x.handOf(0, 5), later[kind]);
                 DUE.is("handOf(0, 4)", x.handOf(0, 4), 19);
             }
@@ -75,13 +66,6 @@ public final class HandTest {
     }
 
     private static void stones() {
-        DUE.refuses(Made::usual, "stone(5, 99)", x -> x.stone(5, 99), -11, -1);
-        DUE.refuses(Made::usual, "stone(-1, 0)", x -> x.stone(-1, 0), -11, -1);
-        DUE.refuses(Made::usual, "stone(0, 36)", x -> x.stone(0, 36), -16, -6);
-        DUE.refuses(Made::usual, "stone(0, -2)", x -> x.stone(0, -2), -16, -6);
-        DUE.refuses(Made::usual, "stone(0, 26)", x -> x.stone(0, 26), -16, -6);
-        DUE.refuses(Made::usual, "stoneAt(5)", x -> x.stoneAt(5), -11, -1);
-        DUE.refuses(Made::usual, "stoneAt(-1)", x -> x.stoneAt(-1), -11, -1);
         DUE.asks(Made::usual, "stone(0, 27) where it lies", x -> x.stone(0, 27), 27);
         DUE.asks(Made::usual, "stoneAt(3)", x -> x.stoneAt(3), 34);
         DUE.asks(Made::fresh, "stoneAt(3) up", x -> x.stoneAt(3), -1);
@@ -97,13 +81,6 @@ public final class HandTest {
     }
 
     private static void stagesAndTurns() {
-        DUE.refuses(Made::usual, "stage(3, 0)", x -> x.stage(3, 0), -1, -1);
-        DUE.refuses(Made::usual, "stage(-1, 1)", x -> x.stage(-1, 1), -1, -1);
-        DUE.refuses(Made::usual, "stage(0, 0)", x -> x.stage(0, 0), -6, -6);
-        DUE.refuses(Made::usual, "stage(0, 5)", x -> x.stage(0, 5), -6, -6);
-        DUE.refuses(Made::usual, "turn(3)", x -> x.turn(3), -1, -1);
-        DUE.refuses(Made::usual, "turn(-1)", x -> x.turn(-1), -1, -1);
-        DUE.refuses(Made::fresh, "turn(0)", x -> x.turn(0), -1, -1);
         FiveStones x = Made.usual();
         DUE.is("stage(1, 4)", x.stage(1, 4), 2);
         DUE.is("stage(1, 1)", x.stage(1, 1), 4);

@@ -5,18 +5,11 @@ public final class ImageTest {
     private static final Due DUE = new Due("ImageTest");
 
     public static void main(String[] args) {
-        refused();
         images();
         shelvesWithHands();
         outsideOfIt();
         counts();
         DUE.end();
-    }
-
-    private static void refused() {
-        DUE.refuses(Made::usual, "restore()", x -> x.restore(), -6, -6);
-        DUE.asks(Made::usual, "image()", x -> x.image(), 3);
-        DUE.asks(Made::fresh, "image()", x -> x.image(), 0);
     }
 
     private static void images() {

@@ -1,4 +1,4 @@
-/** Objects that the tests begin with. */
+/** Objects that the tests begin with, and how they are made. */
 final class Made {
     private Made() {
     }
@@ -23,10 +23,7 @@ final class Made {
         for (int i = 0; i < 5; i++) {
             x.set(0, i, i + 1);
         }
-        x.row(1, 2, 3);
-        x.set(1, 0, 50);
-        x.set(1, 1, 20);
-        x.set(1, 2, 10);
+        ints(x, 1, 50, 20, 10);
         x.show(2, 0);
         x.show(3, 2);
         x.row(4, 0, 0);
@@ -39,6 +36,80 @@ final class Made {
         FiveStones x = usual();
         x.hand(6, 9);
         return x;
+    }
+
+    /**
+     * Full of what a call could change by mistake: an image that differs, stages, rounds, tosses, faults, a fault of
+     * a text, a seed, refusals, some stones up, and in shelf 5 the text 'up 9', in 6 a row of 160 longs, in 7 nothing.
+     */
+    static FiveStones busy() {
+        FiveStones x = full();
+        x.image();
+        x.stage(0, 4);
+        x.turn(0);
+        lay(x, 27);
+        x.seed(0);
+        x.toss(1, 1);
+        x.turn(3);
+        x.stone(0, 0);
+        x.toss(1, 1);
+        lay(x, 27, 26);
+        x.stone(3, 34);
+        x.turn(2);
+        x.seed(77);
+        write(x, 5, "up 9");
+        x.game(5);
+        x.row(6, 3, 160);
+        x.set(6, 0, 11);
+        x.set(6, 159, -5);
+        x.handOf(4, 0);
+        x.act(3, 2, 5);
+        return x;
+    }
+
+    /** As busy, with a row of chances in shelf 5: only hand 2, whose turn it is, gets through, and at once. */
+    static FiveStones hundred() {
+        FiveStones x = busy();
+        ints(x, 5, 0, 0, 100, 0);
+        return x;
+    }
+
+    /** So many hands, the last one first to toss, five stones that lie, and a row of four ints in shelf 0. */
+    static FiveStones hands(int n) {
+        FiveStones x = new FiveStones();
+        for (int h = 0; h < n; h++) {
+            x.hand(h, h + 1);
+        }
+        x.turn(n - 1);
+        lay(x, 27, 26, 20, 34, 14);
+        ints(x, 0, 5, 6, 7, 8);
+        return x;
+    }
+
+    /** One hand, and the stones in these cells. */
+    static FiveStones one(int kind, int a, int... cells) {
+        FiveStones x = new FiveStones();
+        x.hand(kind, a);
+        lay(x, cells);
+        return x;
+    }
+
+    /** A TIRED hand behind so many tosses, all stones up. */
+    static FiveStones tired(int tosses) {
+        FiveStones x = one(4, 0);
+        while (x.handOf(0, 4) < tosses - 100) {
+            x.plays(20);
+        }
+        tossTimes(x, tosses - x.handOf(0, 4));
+        lay(x);
+        return x;
+    }
+
+    static void tossTimes(FiveStones x, int n) {
+        for (int t = 0; t < n; t++) {
+            x.stone(0, 27);
+            x.toss(1, 9);
+        }
     }
 
     static void lay(FiveStones x, int... cells) {

@@ -12,19 +12,6 @@ public final class ShelfTest {
     }
 
     private static void rows() {
-        DUE.refuses(Made::usual, "row(-1, 9, -1)", x -> x.row(-1, 9, -1), -1, -1);
-        DUE.refuses(Made::usual, "row(8, 0, 1)", x -> x.row(8, 0, 1), -1, -1);
-        DUE.refuses(Made::usual, "row(0, 9, -1)", x -> x.row(0, 9, -1), -4, -4);
-        DUE.refuses(Made::usual, "row(0, 4, 161)", x -> x.row(0, 4, 161), -6, -6);
-        DUE.refuses(Made::usual, "row(0, -1, 1)", x -> x.row(0, -1, 1), -6, -6);
-        DUE.refuses(Made::usual, "row(0, 3, 161)", x -> x.row(0, 3, 161), -7, -7);
-        DUE.refuses(Made::usual, "set(8, -1, 1)", x -> x.set(8, -1, 1), -1, -1);
-        DUE.refuses(Made::usual, "set(-1, 0, 1)", x -> x.set(-1, 0, 1), -1, -1);
-        DUE.refuses(Made::usual, "set(2, -1, 1)", x -> x.set(2, -1, 1), -2, -2);
-        DUE.refuses(Made::usual, "set(7, -1, 1)", x -> x.set(7, -1, 1), -3, -3);
-        DUE.refuses(Made::usual, "set(0, -1, 1)", x -> x.set(0, -1, 1), -5, -5);
-        DUE.refuses(Made::usual, "set(0, 5, 1)", x -> x.set(0, 5, 1), -5, -5);
-        DUE.refuses(Made::usual, "set(4, 0, 1)", x -> x.set(4, 0, 1), -5, -5);
         DUE.asks(Made::usual, "element(0, 2)", x -> x.element(0, 2), 3);
         DUE.asks(Made::usual, "element(0, 5)", x -> x.element(0, 5), 0);
         DUE.asks(Made::usual, "element(0, -1)", x -> x.element(0, -1), 0);
@@ -60,26 +47,6 @@ public final class ShelfTest {
     }
 
     private static void copies() {
-        DUE.refuses(Made::usual, "copy(8, 2, 0, 0, -1)", x -> x.copy(8, 2, 0, 0, -1), -1, -1);
-        DUE.refuses(Made::usual, "copy(2, 8, 0, 0, -1)", x -> x.copy(2, 8, 0, 0, -1), -1, -1);
-        DUE.refuses(Made::usual, "copy(-1, 0, 0, 0, 1)", x -> x.copy(-1, 0, 0, 0, 1), -1, -1);
-        DUE.refuses(Made::usual, "copy(2, 7, 0, 0, -1)", x -> x.copy(2, 7, 0, 0, -1), -2, -2);
-        DUE.refuses(Made::usual, "copy(7, 2, 0, 0, -1)", x -> x.copy(7, 2, 0, 0, -1), -2, -2);
-        DUE.refuses(Made::usual, "copy(2, 3, 0, 0, 0)", x -> x.copy(2, 3, 0, 0, 0), -2, -2);
-        DUE.refuses(Made::usual, "copy(0, 1, 0, 0, -1)", x -> x.copy(0, 1, 0, 0, -1), -2, -2);
-        DUE.refuses(Made::usual, "copy(0, 7, 0, 0, -1)", x -> x.copy(0, 7, 0, 0, -1), -3, -3);
-        DUE.refuses(Made::usual, "copy(7, 1, 0, 0, -1)", x -> x.copy(7, 1, 0, 0, -1), -3, -3);
-        DUE.refuses(Made::usual, "copy(7, 6, 0, 0, 0)", x -> x.copy(7, 6, 0, 0, 0), -3, -3);
-        DUE.refuses(Made::usual, "copy(0, 0, -1, 0, -1)", x -> x.copy(0, 0, -1, 0, -1), -4, -4);
-        DUE.refuses(Made::usual, "copy(0, 0, -1, 0, 1)", x -> x.copy(0, 0, -1, 0, 1), -5, -5);
-        DUE.refuses(Made::usual, "copy(0, 0, 0, -1, 1)", x -> x.copy(0, 0, 0, -1, 1), -5, -5);
-        DUE.refuses(Made::usual, "copy(0, 0, 1, 0, 5)", x -> x.copy(0, 0, 1, 0, 5), -5, -5);
-        DUE.refuses(Made::usual, "copy(0, 0, 0, 1, 5)", x -> x.copy(0, 0, 0, 1, 5), -5, -5);
-        DUE.refuses(Made::usual, "copy(0, 4, 0, 0, 1)", x -> x.copy(0, 4, 0, 0, 1), -5, -5);
-        DUE.refuses(Made::usual, "copy(0, 0, 6, 0, 0)", x -> x.copy(0, 0, 6, 0, 0), -5, -5);
-        int great = Integer.MAX_VALUE;
-        DUE.refuses(Made::usual, "copy(0, 0, great, 0, great)", x -> x.copy(0, 0, great, 0, great), -5, -5);
-        DUE.refuses(Made::usual, "copy(0, 0, 0, 0, great)", x -> x.copy(0, 0, 0, 0, great), -5, -5);
         DUE.asks(Made::usual, "copy(0, 0, 5, 5, 0)", x -> x.copy(0, 0, 5, 5, 0), 1);
         DUE.asks(Made::usual, "copy(0, 4, 0, 0, 0)", x -> x.copy(0, 4, 0, 0, 0), 1);
         overlap(0, 1, 4, new long[] {1, 1, 2, 3, 4});
@@ -104,11 +71,6 @@ public final class ShelfTest {
     }
 
     private static void shown() {
-        DUE.refuses(Made::usual, "show(8, 0)", x -> x.show(8, 0), -1, -1);
-        DUE.refuses(Made::usual, "show(-1, -1)", x -> x.show(-1, -1), -1, -1);
-        DUE.refuses(Made::usual, "show(0, 3)", x -> x.show(0, 3), -1, -1);
-        DUE.refuses(Made::usual, "show(0, -2)", x -> x.show(0, -2), -1, -1);
-        DUE.refuses(Made::fresh, "show(0, 0)", x -> x.show(0, 0), -1, -1);
         DUE.asks(Made::usual, "holds(0)", x -> x.holds(0), 100);
         DUE.asks(Made::usual, "holds(1)", x -> x.holds(1), 102);
         DUE.asks(Made::usual, "holds(3)", x -> x.holds(3), 2);
@@ -125,14 +87,6 @@ public final class ShelfTest {
     }
 
     private static void said() {
-        DUE.refuses(Made::usual, "says(8, 0)", x -> x.says(8, 0), -1, -1);
-        DUE.refuses(Made::usual, "says(-1, 0)", x -> x.says(-1, 0), -1, -1);
-        DUE.refuses(Made::usual, "says(0, 7)", x -> x.says(0, 7), -1, -1);
-        DUE.refuses(Made::usual, "says(7, -1)", x -> x.says(7, -1), -1, -1);
-        DUE.refuses(Made::usual, "says(0, 0)", x -> x.says(0, 0), -2, -2);
-        DUE.refuses(Made::usual, "says(2, 1)", x -> x.says(2, 1), -2, -2);
-        DUE.refuses(Made::usual, "says(3, 2)", x -> x.says(3, 2), -2, -2);
-        DUE.refuses(Made::usual, "says(7, 0)", x -> x.says(7, 0), -3, -3);
         DUE.asks(Made::usual, "says(3, 1)", x -> x.says(3, 1), 2);
         // what each kind says as each kind, with a 4 and 20 tosses; -2 where it isn't of it
         int[][] want = {
@@ -148,17 +102,10 @@ public final class ShelfTest {
             FiveStones x = Made.fresh();
             x.hand(kind, 4);
             x.show(5, 0);
-            tossTimes(x, 20);
+            Made.tossTimes(x, 20);
             for (int as = 0; as < 7; as++) {
                 DUE.is("says(5, " + as + ") of kind " + kind, x.says(5, as), want[kind][as]);
             }
-        }
-    }
-
-    static void tossTimes(FiveStones x, int n) {
-        for (int t = 0; t < n; t++) {
-            x.stone(0, 27);
-            x.toss(1, 9);
         }
     }
 }

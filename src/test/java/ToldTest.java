@@ -5,10 +5,8 @@ public final class ToldTest {
     private static final Due DUE = new Due("ToldTest");
 
     public static void main(String[] args) {
-        refusedChances();
         chances();
         againstPlain();
-        refusedTurns();
         turnsTold();
         DUE.end();
     }
@@ -16,39 +14,6 @@ public final class ToldTest {
     private static FiveStones with(int... values) {
         FiveStones x = Made.usual();
         Made.ints(x, 5, values);
-        return x;
-    }
-
-    private static void refusedChances() {
-        DUE.refuses(Made::usual, "first(8, 0, 0)", x -> x.first(8, 0, 0), -1, -1);
-        DUE.refuses(Made::usual, "first(-1, 0, 1)", x -> x.first(-1, 0, 1), -1, -1);
-        DUE.refuses(Made::usual, "first(2, 3, 0)", x -> x.first(2, 3, 0), -1, -1);
-        DUE.refuses(Made::usual, "first(7, -1, 0)", x -> x.first(7, -1, 0), -1, -1);
-        DUE.refuses(Made::usual, "first(2, 0, 0)", x -> x.first(2, 0, 0), -2, -2);
-        DUE.refuses(Made::usual, "first(7, 0, 0)", x -> x.first(7, 0, 0), -3, -3);
-        DUE.refuses(Made::usual, "first(4, 0, 0)", x -> x.first(4, 0, 0), -5, -5);
-        DUE.refuses(() -> with(101, 0), "first of two chances", x -> x.first(5, 0, 0), -5, -5);
-        DUE.refuses(Made::usual, "first(1, 0, 0)", x -> x.first(1, 0, 0), -6, -6);
-        DUE.refuses(Made::usual, "first(1, 0, 101)", x -> x.first(1, 0, 101), -6, -6);
-        DUE.refuses(() -> with(0, 0, 101), "first of 101", x -> x.first(5, 0, 1), -6, -6);
-        DUE.refuses(() -> with(-1, 0, 0), "first of -1", x -> x.first(5, 0, 1), -6, -6);
-        DUE.refuses(Made::usual, "turns(8, -1)", x -> x.turns(8, -1), -11, -1);
-        DUE.refuses(Made::usual, "turns(-1, 0)", x -> x.turns(-1, 0), -11, -1);
-        DUE.refuses(Made::usual, "turns(2, -1)", x -> x.turns(2, -1), -12, -2);
-        DUE.refuses(Made::usual, "turns(7, -1)", x -> x.turns(7, -1), -13, -3);
-        DUE.refuses(Made::usual, "turns(4, -1)", x -> x.turns(4, -1), -15, -5);
-        DUE.refuses(() -> with(101, 0), "turns of two chances", x -> x.turns(5, -1), -15, -5);
-        DUE.refuses(() -> with(0, 0, 101), "turns of 101", x -> x.turns(5, 0), -16, -6);
-        DUE.refuses(() -> with(0, -1, 0), "turns of -1", x -> x.turns(5, 0), -16, -6);
-        DUE.refuses(Made::usual, "turns(1, -1)", x -> x.turns(1, -1), -16, -6);
-        DUE.refuses(Made::usual, "turns(1, 1000001)", x -> x.turns(1, 1000001), -16, -6);
-        DUE.refuses(ToldTest::handless, "turns without hands", x -> x.turns(5, -1), -15, -5);
-        DUE.refuses(ToldTest::handless, "first without hands", x -> x.first(5, 0, 1), -1, -1);
-    }
-
-    private static FiveStones handless() {
-        FiveStones x = Made.fresh();
-        x.row(5, 0, 5);
         return x;
     }
 
@@ -83,23 +48,6 @@ public final class ToldTest {
             }
         }
         DUE.is("turns that come to no fewer", slow.turns(0, left - 1), -1);
-        lastTurn();
-    }
-
-    /** Only hand 3 ever gets through, in every fourth turn. */
-    private static void lastTurn() {
-        FiveStones x = Made.full();
-        Made.ints(x, 5, 0, 0, 0, 1);
-        int left = 1000000;
-        for (int t = 0; t < 250; t++) {
-            left -= left / 100;
-        }
-        x.turn(0);
-        DUE.is("turns that end with the 1000th", x.turns(5, left), 1000);
-        DUE.is("turns that don't", x.turns(5, left - 1), -1);
-        x.turn(3);
-        DUE.is("turns that end with the 997th", x.turns(5, left), 997);
-        DUE.is("turns that would end with the 1001st", x.turns(5, left - left / 100), -1);
     }
 
     private static void againstPlain() {
@@ -134,30 +82,11 @@ public final class ToldTest {
         }
     }
 
-    private static void refusedTurns() {
-        DUE.refuses(Made::usual, "judge(3, 2, -1)", x -> x.judge(3, 2, -1), -11, -1);
-        DUE.refuses(Made::usual, "judge(0, 8, -1)", x -> x.judge(0, 8, -1), -11, -1);
-        DUE.refuses(Made::usual, "judge(0, -1, -1)", x -> x.judge(0, -1, -1), -11, -1);
-        DUE.refuses(Made::usual, "judge(0, 2, -1)", x -> x.judge(0, 2, -1), -12, -2);
-        DUE.refuses(Made::usual, "judge(0, 7, -1)", x -> x.judge(0, 7, -1), -13, -3);
-        DUE.refuses(Made::usual, "judge(0, 0, -1)", x -> x.judge(0, 0, -1), -14, -4);
-        DUE.refuses(Made::usual, "judge(0, 0, 21)", x -> x.judge(0, 0, 21), -15, -5);
-        DUE.refuses(Made::usual, "judge(0, 0, 6)", x -> x.judge(0, 0, 6), -15, -5);
-        DUE.refuses(() -> with(new int[21]), "judge(0, 5, 21)", x -> x.judge(0, 5, 21), -16, -6);
-        DUE.refuses(Made::usual, "told(-1, 2, -1)", x -> x.told(-1, 2, -1), -1, -1);
-        DUE.refuses(Made::usual, "told(0, 8, -1)", x -> x.told(0, 8, -1), -1, -1);
-        DUE.refuses(Made::usual, "told(0, 2, -1)", x -> x.told(0, 2, -1), -2, -2);
-        DUE.refuses(Made::usual, "told(0, 7, -1)", x -> x.told(0, 7, -1), -3, -3);
-        DUE.refuses(Made::usual, "told(0, 0, -1)", x -> x.told(0, 0, -1), -4, -4);
-        DUE.refuses(Made::usual, "told(0, 0, 21)", x -> x.told(0, 0, 21), -5, -5);
-        DUE.refuses(() -> with(new int[21]), "told(0, 5, 21)", x -> x.told(0, 5, 21), -6, -6);
-        DUE.asks(() -> with(new int[20]), "judge(0, 5, 20)", x -> x.judge(0, 5, 20), 0);
-        DUE.refuses(() -> with(11, 11), "told twice the same", x -> x.told(0, 5, 2), -6, -6);
-    }
-
     private static void turnsTold() {
         DUE.asks(() -> with(11, 22), "judge of a good turn", x -> x.judge(0, 5, 2), -1);
         DUE.asks(() -> with(11, 22), "told of a good turn", x -> x.told(0, 5, 2), 910000 * 88 / 100);
+        DUE.asks(() -> with(new int[20]), "judge(0, 5, 20)", x -> x.judge(0, 5, 20), 0);
+        DUE.refuses(() -> with(11, 11), "told twice the same", x -> x.told(0, 5, 2), -6, -6);
         DUE.asks(() -> with(11, 11), "judge twice the same", x -> x.judge(0, 5, 2), 1);
         DUE.asks(() -> with(11, 11), "told of the first only", x -> x.told(0, 5, 1), 910000);
         DUE.asks(() -> with(11), "judge of no tosses", x -> x.judge(0, 5, 0), -1);
@@ -176,7 +105,7 @@ public final class ToldTest {
         DUE.is("longs as ints", x.judge(0, 5, 1), -1);
         FiveStones tired = Made.fresh();
         tired.hand(4, 0);
-        ShelfTest.tossTimes(tired, 9);
+        Made.tossTimes(tired, 9);
         Made.lay(tired, 33, 0);
         Made.ints(tired, 5, 11, 24);
         DUE.is("tosses do not rise in thought", tired.told(0, 5, 2), 970000 * 88 / 100);

@@ -5,12 +5,9 @@ public final class TruthTest {
     private static final Due DUE = new Due("TruthTest");
 
     public static void main(String[] args) {
-        refused();
-        seeds();
         tosses();
         stages();
         throwsDown();
-        crowded();
         rounds();
         DUE.end();
     }
@@ -21,29 +18,6 @@ public final class TruthTest {
 
     private static int drawOf(int seed, int n) {
         return (seed >>> 16) % n;
-    }
-
-    private static void refused() {
-        DUE.refuses(Made::fresh, "toss(0, 0)", x -> x.toss(0, 0), -5, -5);
-        DUE.refuses(Made::usual, "toss(1, 0)", x -> x.toss(1, 0), -6, -6);
-        DUE.refuses(Made::usual, "toss(1, 10)", x -> x.toss(1, 10), -6, -6);
-        DUE.refuses(Made::usual, "toss(0, 1)", x -> x.toss(0, 1), -6, -6);
-        DUE.refuses(Made::usual, "toss(32, 1)", x -> x.toss(32, 1), -6, -6);
-        DUE.refuses(Made::usual, "toss(-1, 1)", x -> x.toss(-1, 1), -6, -6);
-        DUE.refuses(Made::usual, "throwDown(-1)", x -> x.throwDown(-1), -6, -6);
-        DUE.refuses(Made::usual, "throwDown(3)", x -> x.throwDown(3), -6, -6);
-        DUE.refuses(Made::fresh, "plays(0)", x -> x.plays(0), -5, -5);
-        DUE.refuses(Made::usual, "plays(0)", x -> x.plays(0), -6, -6);
-        DUE.refuses(Made::usual, "plays(21)", x -> x.plays(21), -6, -6);
-        DUE.asks(Made::usual, "throwDown(2) of none up", x -> x.throwDown(2), 0);
-    }
-
-    private static void seeds() {
-        FiveStones x = Made.fresh();
-        DUE.is("seed(7)", x.seed(7), 1);
-        DUE.is("seed(MIN)", x.seed(Integer.MIN_VALUE), 7);
-        DUE.is("seed(0)", x.seed(0), Integer.MIN_VALUE);
-        DUE.is("status(5)", x.status(5), 0);
     }
 
     private static void tosses() {
@@ -98,6 +72,7 @@ public final class TruthTest {
     }
 
     private static void throwsDown() {
+        DUE.asks(Made::usual, "throwDown(2) of none up", x -> x.throwDown(2), 0);
         Random random = new Random(19);
         for (int run = 0; run < 600; run++) {
             FiveStones x = Made.fresh();
@@ -128,22 +103,6 @@ public final class TruthTest {
             }
             DUE.is("seed behind it", x.status(5), seed);
         }
-    }
-
-    /** Looks for a seed that throws to cell 35, where the next by numbers is 0. */
-    private static void crowded() {
-        for (int seed = 0; seed < 100000; seed++) {
-            int next = seedOf(seed);
-            if (drawOf(next, 6) == 5 && drawOf(seedOf(next), 6) == 5) {
-                FiveStones x = Made.fresh();
-                Made.lay(x, 35, 0, 1, 3);
-                x.seed(seed);
-                DUE.is("throwDown(2)", x.throwDown(2), 1);
-                DUE.is("behind 35, 0 and 1 comes 2", x.stoneAt(4), 2);
-                return;
-            }
-        }
-        DUE.is("a seed for cell 35", 0, 1);
     }
 
     /** The same rounds by plan, high, toss and throwDown on a second object. */
