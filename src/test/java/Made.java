@@ -97,7 +97,8 @@ final class Made {
     /** A TIRED hand behind so many tosses, all stones up. */
     static FiveStones tired(int tosses) {
         FiveStones x = one(4, 0);
-        while (x.handOf(0, 4) < tosses - 100) {
+        // bounded, so that a class that tosses nothing fails a test and doesn't hold it up
+        for (int t = 0; t < 100 && x.handOf(0, 4) < tosses - 100; t++) {
             x.plays(20);
         }
         tossTimes(x, tosses - x.handOf(0, 4));

@@ -356,7 +356,7 @@ public final class TermsTruthTest {
                 y.seed(seed);
                 y.throwDown(1);
                 int faults = 0;
-                while (y.status(1) != 0) {
+                for (int t = 0; t < 5 && y.status(1) != 0; t++) {
                     int set = y.plan(0, stage);
                     faults += 1 - y.toss(set, y.high(0, set, 0));
                 }

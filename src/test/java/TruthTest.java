@@ -145,7 +145,7 @@ public final class TruthTest {
     private static int playByHand(FiveStones y) {
         y.throwDown(1);
         int who = y.status(2);
-        while (y.status(1) != 0) {
+        for (int t = 0; t < 5 && y.status(1) != 0; t++) {
             int set = y.plan(who, y.handOf(who, 2));
             if (y.toss(set, y.high(who, set, 0)) == 0) {
                 return 1;
